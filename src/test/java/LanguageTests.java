@@ -1,0 +1,132 @@
+import java.lang.reflect.Constructor;
+import java.lang.reflect.Field;
+import java.lang.reflect.Method;
+import java.lang.reflect.Modifier;
+import java.nio.charset.StandardCharsets;
+import java.nio.file.Files;
+import java.nio.file.Path;
+import java.util.ArrayList;
+import java.util.List;
+import java.util.Set;
+import java.util.TreeSet;
+import java.util.regex.Matcher;
+import java.util.regex.Pattern;
+
+/** The face, and those of LANGUAGE.md's rules that can be seen from the text. */
+public final class LanguageTests {
+    private static final String[] FACE = {
+        "int letter(int)", "int office()", "int ball(int, int)", "int crumple(int, int)",
+        "int fly(int, int, int, int)", "int throwIt(int, int, int)", "int pass(int)", "int clearBin()",
+        "int good(int, int, int)", "int best(int, int)", "int off(int, int)", "int when(int, int, int)",
+        "int crumpled(int, int, int)", "int fills(int, int, int)", "int whose(int, int, int)",
+        "long inRow(int, int, int)", "long soMany(int, int, int, int)", "int farthest(int)", "int row(int)",
+        "int judge()", "int lots(int, int)", "int image()", "int on()", "int count(int)"};
+    private static final String[] FORBIDDEN = {
+        "throw", "throws", "try", "catch", "synchronized", "assert", "import", "package", "System", "Object",
+        "->", "::", "lambda", "Exact", "hashCode", "toString", "equals", "volatile", "native", "Random", "Thread"};
+    private static final int LONGEST_METHOD = 60;
+
+    public static void main(String[] args) throws Exception {
+        face();
+        fields();
+        nested();
+        String source = Files.readString(Path.of("src/main/java/PaperInBin.java"), StandardCharsets.UTF_8);
+        words(source);
+        methods(source);
+        Due.end("LanguageTests");
+    }
+
+    private static void face() {
+        Set<String> wanted = new TreeSet<>(List.of(FACE));
+        Set<String> found = new TreeSet<>();
+        Set<String> names = new TreeSet<>();
+        for (Method m : PaperInBin.class.getDeclaredMethods()) {
+            if (!Modifier.isPrivate(m.getModifiers())) {
+                Due.is("public: " + m, Modifier.isPublic(m.getModifiers()) ? 1 : 0, 1);
+                Due.is("not static: " + m, Modifier.isStatic(m.getModifiers()) ? 1 : 0, 0);
+                List<String> types = new ArrayList<>();
+                for (Class<?> type : m.getParameterTypes()) {
+                    types.add(type.getName());
+                }
+                found.add(m.getReturnType().getName() + " " + m.getName() + "(" + String.join(", ", types) + ")");
+                names.add(m.getName());
+            }
+        }
+        Due.is("the face " + found, found.equals(wanted) ? 1 : 0, 1);
+        for (Method m : PaperInBin.class.getDeclaredMethods()) {
+            Due.is("private with a public one's name: " + m,
+                    Modifier.isPrivate(m.getModifiers()) && names.contains(m.getName()) ? 1 : 0, 0);
+        }
+        Constructor<?>[] constructors = PaperInBin.class.getDeclaredConstructors();
+        Due.is("constructors", constructors.length, 1);
+        Due.is("it is public", Modifier.isPublic(constructors[0].getModifiers()) ? 1 : 0, 1);
+        Due.is("it takes nothing", constructors[0].getParameterCount(), 0);
+        Due.is("final", Modifier.isFinal(PaperInBin.class.getModifiers()) ? 1 : 0, 1);
+    }
+
+    private static void fields() {
+        List<Class<?>> all = new ArrayList<>(List.of(PaperInBin.class.getDeclaredClasses()));
+        all.add(PaperInBin.class);
+        for (Class<?> c : all) {
+            int fields = 0;
+            for (Field f : c.getDeclaredFields()) {
+                Due.is("private: " + f, Modifier.isPrivate(f.getModifiers()) ? 1 : 0, 1);
+                if (Modifier.isStatic(f.getModifiers())) {
+                    Due.is("static, so final: " + f, Modifier.isFinal(f.getModifiers()) ? 1 : 0, 1);
+                } else {
+                    fields++;
+                }
+            }
+            Due.is("at most twenty fields: " + c, fields <= 20 ? 1 : 0, 1);
+        }
+    }
+
+    private static void nested() {
+        Class<?>[] inside = PaperInBin.class.getDeclaredClasses();
+        Due.is("at most twelve classes", inside.length <= 11 ? 1 : 0, 1);
+        for (Class<?> c : inside) {
+            Due.is("static: " + c, Modifier.isStatic(c.getModifiers()) ? 1 : 0, 1);
+            Due.is("not public: " + c, Modifier.isPublic(c.getModifiers()) ? 1 : 0, 0);
+        }
+    }
+
+    private static void words(String source) {
+        String code = source.replaceAll("(?s)/\\*.*?\\*/", "").replaceAll("//[^\n]*", "");
+        for (String word : FORBIDDEN) {
+            String pattern = Character.isLetter(word.charAt(0)) ? "\\b" + word + "\\b" : Pattern.quote(word);
+            Due.is("the word " + word, Pattern.compile(pattern).matcher(code).find() ? 1 : 0, 0);
+        }
+        for (int i = 0; i < source.length(); i++) {
+            if (source.charAt(i) > 127 || source.charAt(i) == '\t') {
+                Due.is("a sign at " + i, source.charAt(i), 127);
+            }
+        }
+        Set<String> made = new TreeSet<>();
+        Matcher makes = Pattern.compile("\\bnew \\w+").matcher(code);
+        while (makes.find()) {
+            made.add(makes.group());
+        }
+        made.removeAll(List.of("new Office", "new Text", "new Flight", "new Lot", "new Odds", "new int"));
+        Due.is("made beside the object's own " + made, made.size(), 0);
+    }
+
+    /** No method is long, or takes more than seven numbers. */
+    private static void methods(String source) {
+        String[] lines = source.split("\n");
+        Pattern head = Pattern.compile("^( +)(private|public) [^=;]*\\(([^)]*)\\) \\{$");
+        int found = 0;
+        for (int i = 0; i < lines.length; i++) {
+            Matcher m = head.matcher(lines[i]);
+            if (m.matches()) {
+                found++;
+                int end = i;
+                while (!lines[end].equals(m.group(1) + "}")) {
+                    end++;
+                }
+                Due.is("not too long: " + lines[i], end - i + 1 <= LONGEST_METHOD ? 1 : 0, 1);
+                Due.is("not too many: " + lines[i], m.group(3).split(",").length <= 7 ? 1 : 0, 1);
+            }
+        }
+        Due.is("methods found", found >= FACE.length ? 1 : 0, 1);
+    }
+}
