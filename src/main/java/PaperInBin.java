@@ -278,11 +278,7 @@ public final class PaperInBin {
         if (n > MOST_SHEETS || k > NINE) {
             return refuseLong(ROOM);
         }
-        if (part != 0 && part != 1) {
-            return refuseLong(OTHER);
-        }
-        odds.atLeast(n, n, k);
-        return part == 0 ? odds.above : odds.below;
+        return partOfOdds(n, n, k, part);
     }
 
     public long soMany(int n, int m, int k, int part) {
@@ -292,11 +288,7 @@ public final class PaperInBin {
         if (n > MOST_SHEETS || m > n || k > NINE) {
             return refuseLong(ROOM);
         }
-        if (part != 0 && part != 1) {
-            return refuseLong(OTHER);
-        }
-        odds.atLeast(n, m, k);
-        return part == 0 ? odds.above : odds.below;
+        return partOfOdds(n, m, k, part);
     }
 
     public int farthest(int ball) {
@@ -411,6 +403,14 @@ public final class PaperInBin {
 
     private long refuseLong(int refusal) {
         return LONG_REFUSALS - refuse(refusal);
+    }
+
+    private long partOfOdds(int n, int m, int k, int part) {
+        if (part != 0 && part != 1) {
+            return refuseLong(OTHER);
+        }
+        odds.atLeast(n, m, k);
+        return part == 0 ? odds.above : odds.below;
     }
 
     private int refusalOfThrow(int ball, int pace, int rise) {

@@ -653,6 +653,9 @@ public final class PromiseTests {
         Due.is("above", x.lots(31, 1), -6);
         Due.is("no balls", x.lots(30, 1), -3);
         Due.is("-3", x.count(13), 1);
+        // seed 0: 1013904223, 1196435762, 3519870697, by 256: 3960563, 4673577, 5360886: BALL 0, PACE 4, RISE 1, to 16
+        Due.is("one that is in", Due.office("b16,13;pp11;").lots(1, 0), 1);
+        Due.is("one that is not", Due.office("b12,23;pp11;").lots(1, 0), 0);
         // a BIN as wide and low as can be takes many; see ModelTests for the draws of many seeds
         x = Due.office("w60;b8,51;pp30;pk11;");
         int some = 0;
