@@ -839,31 +839,29 @@ public final class PaperInBin {
             switch (word) {
                 case 'b':
                     place++;
-                    return readBin() && passLetter(';');
+                    return readFirst(2) && passLetter(',') && readTwoDigits() && passLetter(';');
                 case 'w':
                 case 'c':
                     place++;
-                    first = readNumber(2);
-                    return first >= 0 && passLetter(';');
+                    return readFirst(2) && passLetter(';');
                 case 'h':
                 case 'i':
                     place++;
-                    first = readNumber(1);
-                    return first >= 0 && passLetter(';');
+                    return readFirst(1) && passLetter(';');
                 case 'f':
                     place++;
                     return readFan() && passLetter(';');
                 case 'p':
                     place++;
-                    return readBall() && passLetter(';');
+                    return readKind() && readTwoDigits() && passLetter(';');
                 default:
                     return false;
             }
         }
 
-        private boolean readBin() {
-            first = readNumber(2);
-            return first >= 0 && passLetter(',') && readTwoDigits();
+        private boolean readFirst(int mostDigits) {
+            first = readNumber(mostDigits);
+            return first >= 0;
         }
 
         private boolean readFan() {
@@ -872,8 +870,7 @@ public final class PaperInBin {
                 return false;
             }
             place++;
-            first = readNumber(1);
-            if (first < 0) {
+            if (!readFirst(1)) {
                 return false;
             }
             if (sign == '-') {
@@ -883,13 +880,13 @@ public final class PaperInBin {
             return second >= 0;
         }
 
-        private boolean readBall() {
+        private boolean readKind() {
             first = kindOfLetter(letterHere());
             if (first < 0) {
                 return false;
             }
             place++;
-            return readTwoDigits();
+            return true;
         }
 
         private boolean readTwoDigits() {
@@ -903,22 +900,14 @@ public final class PaperInBin {
 
         /** A number of so many digits at most, at least one; -1 if no digit is here. */
         private int readNumber(int mostDigits) {
-            int digit = digitHere();
-            if (digit < 0) {
-                return -1;
-            }
-            int number = 0;
-            for (int i = 0; i < mostDigits && digit >= 0; i++) {
-                number = 10 * number + digit;
+            int number = -1;
+            int c = letterHere();
+            for (int i = 0; i < mostDigits && c >= '0' && c <= '9'; i++) {
+                number = 10 * Math.max(0, number) + c - '0';
                 place++;
-                digit = digitHere();
+                c = letterHere();
             }
             return number;
-        }
-
-        private int digitHere() {
-            int c = letterHere();
-            return c >= '0' && c <= '9' ? c - '0' : -1;
         }
 
         private boolean passLetter(int c) {

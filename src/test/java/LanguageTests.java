@@ -7,7 +7,9 @@ import java.nio.file.Files;
 import java.nio.file.Path;
 import java.util.ArrayList;
 import java.util.List;
+import java.util.Map;
 import java.util.Set;
+import java.util.TreeMap;
 import java.util.TreeSet;
 import java.util.regex.Matcher;
 import java.util.regex.Pattern;
@@ -25,6 +27,9 @@ public final class LanguageTests {
         "throw", "throws", "try", "catch", "synchronized", "assert", "import", "package", "System", "Object",
         "->", "::", "lambda", "Exact", "hashCode", "toString", "equals", "volatile", "native", "Random", "Thread"};
     private static final int LONGEST_METHOD = 60;
+    private static final int DEEPEST_CALL = 8;
+    private static final Pattern HEAD =
+            Pattern.compile("^( +)(?:private|public) [^=;]*?(\\w+)\\(([^)]*)\\) \\{$");
 
     public static void main(String[] args) throws Exception {
         face();
@@ -33,6 +38,7 @@ public final class LanguageTests {
         String source = Files.readString(Path.of("src/main/java/PaperInBin.java"), StandardCharsets.UTF_8);
         words(source);
         methods(source);
+        callsGoNotTooDeep(source);
         Due.end("LanguageTests");
     }
 
@@ -113,20 +119,59 @@ public final class LanguageTests {
     /** No method is long, or takes more than seven numbers. */
     private static void methods(String source) {
         String[] lines = source.split("\n");
-        Pattern head = Pattern.compile("^( +)(private|public) [^=;]*\\(([^)]*)\\) \\{$");
         int found = 0;
         for (int i = 0; i < lines.length; i++) {
-            Matcher m = head.matcher(lines[i]);
+            Matcher m = HEAD.matcher(lines[i]);
             if (m.matches()) {
                 found++;
-                int end = i;
-                while (!lines[end].equals(m.group(1) + "}")) {
-                    end++;
-                }
+                int end = endOf(lines, i, m.group(1));
                 Due.is("not too long: " + lines[i], end - i + 1 <= LONGEST_METHOD ? 1 : 0, 1);
                 Due.is("not too many: " + lines[i], m.group(3).split(",").length <= 7 ? 1 : 0, 1);
             }
         }
         Due.is("methods found", found >= FACE.length ? 1 : 0, 1);
+    }
+
+    /** The line of the brace that ends what begins at a line with that indent. */
+    private static int endOf(String[] lines, int begin, String indent) {
+        int end = begin;
+        while (!lines[end].equals(indent + "}")) {
+            end++;
+        }
+        return end;
+    }
+
+    /** No chain of calls is long, and none comes back to where it was: the program has no recursion. */
+    private static void callsGoNotTooDeep(String source) {
+        String[] lines = source.split("\n");
+        Map<String, Set<String>> calls = new TreeMap<>();
+        for (int i = 0; i < lines.length; i++) {
+            Matcher m = HEAD.matcher(lines[i]);
+            if (m.matches()) {
+                Set<String> called = calls.computeIfAbsent(m.group(2), name -> new TreeSet<>());
+                for (int j = i + 1; j < endOf(lines, i, m.group(1)); j++) {
+                    Matcher call = Pattern.compile("\\b(\\w+)\\(").matcher(lines[j]);
+                    while (call.find()) {
+                        called.add(call.group(1));
+                    }
+                }
+            }
+        }
+        for (String name : calls.keySet()) {
+            int depth = depth(calls, name, 1);
+            Due.is("calls of " + name + " go " + depth + " deep", depth <= DEEPEST_CALL ? 1 : 0, 1);
+        }
+    }
+
+    private static int depth(Map<String, Set<String>> calls, String name, int above) {
+        int deepest = 1;
+        if (above <= 2 * DEEPEST_CALL) {
+            for (String called : calls.get(name)) {
+                if (calls.containsKey(called)) {
+                    deepest = Math.max(deepest, 1 + depth(calls, called, above + 1));
+                }
+            }
+        }
+        return deepest;
     }
 }

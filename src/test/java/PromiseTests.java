@@ -300,12 +300,6 @@ public final class PromiseTests {
         Due.is("second 3", x.throwIt(0, 1, 0), 0);
     }
 
-    private static void toSecond(PaperInBin x, int second) {
-        while (x.count(3) < second) {
-            x.pass(Math.min(99, second - x.count(3)));
-        }
-    }
-
     // Promise 8
     private static void pass() {
         PaperInBin x = Due.office("pp11;");
@@ -315,7 +309,7 @@ public final class PromiseTests {
         Due.is("pass(-5)", x.pass(-5), -4);
         Due.is("pass(100)", x.pass(100), -6);
         Due.is("pass(greatest)", x.pass(Integer.MAX_VALUE), -6);
-        toSecond(x, 9989);
+        Due.passTo(x, 9989);
         Due.is("above", x.pass(11), -6);
         Due.is("second", x.count(3), 9989);
         Due.is("pass(9)", x.pass(9), 9998);
@@ -329,7 +323,7 @@ public final class PromiseTests {
         Due.is("in mind still", x.row(306), 1);
         Due.is("in mind still", x.judge(), -9);
         x = Due.office("pp11;");
-        toSecond(x, 9990);
+        Due.passTo(x, 9990);
         Due.is("to the end", x.pass(9), 9999);
     }
 
@@ -508,29 +502,19 @@ public final class PromiseTests {
         Due.is("no balls", new PaperInBin().whose(1, -5, 1), 0);
     }
 
-    private static void fraction(String call, long above, long below, long wantAbove, long wantBelow) {
-        Due.is(call + " above", above, wantAbove);
-        Due.is(call + " below", below, wantBelow);
-    }
-
-    private static void inRowIs(int n, int k, long above, long below) {
-        PaperInBin x = new PaperInBin();
-        fraction("inRow(" + n + ", " + k + ")", x.inRow(n, k, 0), x.inRow(n, k, 1), above, below);
-    }
-
     // Promise 17
     private static void inRow() {
-        inRowIs(0, 0, 1, 1);
-        inRowIs(0, 5, 1, 1);
-        inRowIs(1, 0, 0, 1);
-        inRowIs(15, 0, 0, 1);
-        inRowIs(15, 9, 1, 1);
-        inRowIs(1, 3, 1, 3);
-        inRowIs(2, 6, 4, 9);
-        inRowIs(3, 2, 8, 729);
-        inRowIs(15, 8, 35184372088832L, 205891132094649L);
-        inRowIs(15, 1, 1, 205891132094649L);
-        inRowIs(15, 6, 32768, 14348907);
+        Due.inRow(0, 0, 1, 1);
+        Due.inRow(0, 5, 1, 1);
+        Due.inRow(1, 0, 0, 1);
+        Due.inRow(15, 0, 0, 1);
+        Due.inRow(15, 9, 1, 1);
+        Due.inRow(1, 3, 1, 3);
+        Due.inRow(2, 6, 4, 9);
+        Due.inRow(3, 2, 8, 729);
+        Due.inRow(15, 8, 35184372088832L, 205891132094649L);
+        Due.inRow(15, 1, 1, 205891132094649L);
+        Due.inRow(15, 6, 32768, 14348907);
         PaperInBin x = new PaperInBin();
         Due.is("below", x.inRow(-1, 10, 2), LONG_REFUSALS + 4);
         Due.is("below", x.inRow(16, -1, 2), LONG_REFUSALS + 4);
@@ -543,25 +527,20 @@ public final class PromiseTests {
         Due.is("-2", x.count(12), 2);
     }
 
-    private static void soManyIs(int n, int m, int k, long above, long below) {
-        PaperInBin x = new PaperInBin();
-        fraction("soMany(" + n + ", " + m + ", " + k + ")", x.soMany(n, m, k, 0), x.soMany(n, m, k, 1), above, below);
-    }
-
     // Promise 18
     private static void soMany() {
-        soManyIs(0, 0, 0, 1, 1);
-        soManyIs(15, 0, 0, 1, 1);
-        soManyIs(15, 0, 4, 1, 1);
-        soManyIs(15, 1, 0, 0, 1);
-        soManyIs(15, 15, 9, 1, 1);
-        soManyIs(2, 1, 3, 5, 9);
-        soManyIs(2, 2, 3, 1, 9);
-        soManyIs(3, 2, 6, 20, 27);
+        Due.soMany(0, 0, 0, 1, 1);
+        Due.soMany(15, 0, 0, 1, 1);
+        Due.soMany(15, 0, 4, 1, 1);
+        Due.soMany(15, 1, 0, 0, 1);
+        Due.soMany(15, 15, 9, 1, 1);
+        Due.soMany(2, 1, 3, 5, 9);
+        Due.soMany(2, 2, 3, 1, 9);
+        Due.soMany(3, 2, 6, 20, 27);
         // 1 less 8^15 of 9^15
-        soManyIs(15, 1, 1, 170706760005817L, 205891132094649L);
+        Due.soMany(15, 1, 1, 170706760005817L, 205891132094649L);
         // 3 by 2^2 by 7, and 2^3, of 9^3
-        soManyIs(3, 2, 2, 92, 729);
+        Due.soMany(3, 2, 2, 92, 729);
         PaperInBin x = new PaperInBin();
         Due.is("below", x.soMany(-1, 0, 10, 2), LONG_REFUSALS + 4);
         Due.is("below", x.soMany(16, -1, 0, 2), LONG_REFUSALS + 4);
@@ -607,43 +586,34 @@ public final class PromiseTests {
         Due.is("in the row", x.count(8), 12);
     }
 
-    private static int judged(PaperInBin x, int... told) {
-        for (int v : told) {
-            x.row(v);
-        }
-        int answer = x.judge();
-        Due.is("in the row", x.count(8), 0);
-        return answer;
-    }
-
     // Promise 21
     private static void judge() {
         PaperInBin x = Due.office("pp11;pk11;");
-        Due.is("none", judged(x), -9);
-        Due.is("all in", judged(x, 306, 306, 405, 306), -9);
-        Due.is("the last not", judged(x, 306, 306, 405, 305), 3);
-        Due.is("the first not", judged(x, 305, 306), 0);
-        Due.is("no such ball", judged(x, 306, 2306), 1);
-        Due.is("ball 1", judged(x, 306, 1306), 1);
-        Due.is("pace 0", judged(x, 306, 306, 6), 2);
-        Due.is("rise 16", judged(x, 306, 321), 1);
-        Due.is("9999", judged(x, 9999), 0);
+        Due.is("none", Due.judged(x), -9);
+        Due.is("all in", Due.judged(x, 306, 306, 405, 306), -9);
+        Due.is("the last not", Due.judged(x, 306, 306, 405, 305), 3);
+        Due.is("the first not", Due.judged(x, 305, 306), 0);
+        Due.is("no such ball", Due.judged(x, 306, 2306), 1);
+        Due.is("ball 1", Due.judged(x, 306, 1306), 1);
+        Due.is("pace 0", Due.judged(x, 306, 306, 6), 2);
+        Due.is("rise 16", Due.judged(x, 306, 321), 1);
+        Due.is("9999", Due.judged(x, 9999), 0);
         counts(x, "in mind", 2, 12, 0, 0, 0, 0, 40, 40, 0, 0);
         x = Due.office("pp11;i7;");
-        Due.is("filled", judged(x, 306, 306, 306), 2);
+        Due.is("filled", Due.judged(x, 306, 306, 306), 2);
         Due.is("fill", x.count(2), 7);
         x = Due.office("pp11;f+33;");
-        Due.is("second by second", judged(x, 105, 105), 1);
+        Due.is("second by second", Due.judged(x, 105, 105), 1);
         Due.is("second", x.count(3), 0);
         x.pass(3);
-        Due.is("from this second", judged(x, 105, 105), 1);
+        Due.is("from this second", Due.judged(x, 105, 105), 1);
         x.pass(1);
-        Due.is("from this second", judged(x, 105, 105), 0);
+        Due.is("from this second", Due.judged(x, 105, 105), 0);
         x = Due.office("pp11;f+31;");
-        Due.is("twelve", judged(x, 105, 105, 105, 105, 105, 105, 105, 105, 105, 105, 105, 105), 9);
+        Due.is("twelve", Due.judged(x, 105, 105, 105, 105, 105, 105, 105, 105, 105, 105, 105, 105), 9);
         // RISE 15 is a throw still: heights 20 34 47 -> 33 19 4, by 8 to cell 40
         x = Due.office("pp11;w60;b40,15;");
-        Due.is("rise 15", judged(x, 820), -9);
+        Due.is("rise 15", Due.judged(x, 820), -9);
     }
 
     // Promise 22
