@@ -93,7 +93,20 @@ public final class LanguageTests {
         for (Class<?> c : inside) {
             Due.is("static: " + c, Modifier.isStatic(c.getModifiers()) ? 1 : 0, 1);
             Due.is("not public: " + c, Modifier.isPublic(c.getModifiers()) ? 1 : 0, 0);
+            for (Method m : c.getDeclaredMethods()) {
+                Due.is("private: " + m, Modifier.isPrivate(m.getModifiers()) ? 1 : 0, 1);
+                Due.is("a public one's name: " + m, isOfTheFace(m.getName()) ? 1 : 0, 0);
+            }
         }
+    }
+
+    private static boolean isOfTheFace(String name) {
+        for (String head : FACE) {
+            if (head.contains(" " + name + "(")) {
+                return true;
+            }
+        }
+        return false;
     }
 
     private static void words(String source) {
